@@ -28,6 +28,17 @@ final class Check {
         return reader;
     }
 
+    /** These bytes behind an array of two and a text in it that were given. */
+    static MessageReader behindText(int... bytes) {
+        MessageReader reader = reader(146, 161, 77);
+        reader.next();
+        reader.next();
+        for (int b : bytes) {
+            reader.feed(b);
+        }
+        return reader;
+    }
+
     static int size(MessageReader reader) {
         return reader.cut(0);
     }
