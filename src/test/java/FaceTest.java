@@ -35,16 +35,24 @@ public final class FaceTest {
     };
 
     public static void main(String[] args) {
-        Check check = new Check();
-        check.due("members that are not private", visibleMembers().toString(),
-            new TreeSet<>(Arrays.asList(FACE)).toString());
-        check.due("the class's modifiers", Modifier.toString(MessageReader.class.getModifiers()), "public final");
-        check.due("private methods with the name of a public one", hiddenNamesakes().toString(), "[]");
-        check.due("NONE", MessageReader.NONE, -1);
-        check.due("MORE", MessageReader.MORE, -2);
-        check.due("INVALID", MessageReader.INVALID, -3);
-        check.due("LARGE", MessageReader.LARGE, -4);
-        check.due("DEEP", MessageReader.DEEP, -5);
+        Check check = new Check("the face");
+        check.sentence("public final class MessageReader", () -> {
+            check.due("the class's modifiers", Modifier.toString(MessageReader.class.getModifiers()), "public final");
+        });
+        check.sentence("the public constructor, methods and constants of the document and no other", () -> {
+            check.due("members that are not private", visibleMembers().toString(),
+                new TreeSet<>(Arrays.asList(FACE)).toString());
+        });
+        check.sentence("No private method bears the name of a public one", () -> {
+            check.due("such methods", hiddenNamesakes().toString(), "[]");
+        });
+        check.sentence("NONE = -1, MORE = -2, INVALID = -3, LARGE = -4, DEEP = -5", () -> {
+            check.due("NONE", MessageReader.NONE, -1);
+            check.due("MORE", MessageReader.MORE, -2);
+            check.due("INVALID", MessageReader.INVALID, -3);
+            check.due("LARGE", MessageReader.LARGE, -4);
+            check.due("DEEP", MessageReader.DEEP, -5);
+        });
         check.finish();
     }
 

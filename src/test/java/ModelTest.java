@@ -1,4 +1,6 @@
+import java.util.Map;
 import java.util.Random;
+import java.util.TreeMap;
 import java.util.function.LongSupplier;
 
 /** All promises: seeded runs of calls, each answered by the reader and by the model, with the same seeds each time. */
@@ -7,7 +9,15 @@ public final class ModelTest {
     private static final int CALLS = 500;
     private static final int ARGUMENT = -1001;
     private static final int STATE = -1002;
-    private static final Check CHECK = new Check();
+    private static final Check CHECK = new Check("all promises");
+    /** How often a call answered so, for those answers that stand at an edge: the runs must touch each of them. */
+    private static final Map<String, Integer> MET = new TreeMap<>();
+    private static final String[] EDGES = {
+        "next -2", "next -3", "next -4", "next -5", "skip -2", "skip -3", "skip -4", "kind -1", "payload -1",
+        "remaining -1", "whole 0", "level 100", "level 0", "consumed 0",
+        "feed " + ARGUMENT, "put " + ARGUMENT, "cut " + ARGUMENT, "byteAt " + ARGUMENT, "remaining " + ARGUMENT,
+        "pack " + ARGUMENT, "feed " + STATE, "put " + STATE, "pack " + STATE, "feed 4096", "put 4096",
+    };
 
     private final Random random;
     private final String name;
@@ -21,15 +31,29 @@ public final class ModelTest {
     }
 
     public static void main(String[] args) {
-        for (int seed = 0; seed < RUNS; seed++) {
-            new ModelTest(seed).run();
-        }
+        CHECK.sentence("all sentences", () -> {
+            for (int seed = 0; seed < RUNS; seed++) {
+                new ModelTest(seed).run();
+            }
+        });
+        CHECK.sentence("MORE, INVALID, LARGE, DEEP; illegal argument, illegal state", ModelTest::edgesWereMet);
         CHECK.finish();
+    }
+
+    private static void edgesWereMet() {
+        for (String edge : EDGES) {
+            int met = MET.getOrDefault(edge, 0);
+            CHECK.due("was '" + edge + "' met twenty times (it was " + met + " times)?", met >= 20 ? 1 : 0, 1);
+        }
     }
 
     private void run() {
         int most = 20 + random.nextInt(CALLS - 20);
-        int style = random.nextInt(4);
+        int style = random.nextInt(5);
+        if (style == 4) {
+            nearlyFull();
+            most = CALLS;
+        }
         while (calls < most) {
             change(style);
             if (random.nextInt(3) == 0) {
@@ -38,9 +62,30 @@ public final class ModelTest {
         }
     }
 
+    /** A few bytes before 4096, inside an array or not, so that what comes then often has no room. */
+    private void nearlyFull() {
+        if (random.nextBoolean()) {
+            feed(145 + random.nextInt(15));
+            same("next()", reader::next, model::next);
+        }
+        int size = 4060 + random.nextInt(37);
+        while (model.cut(0) + 9 <= size) {
+            same("pack(7, 5, -5)", () -> reader.pack(7, 5, -5), this::appendFloat);
+        }
+    }
+
+    /** The model seeks a packed form among all, which is too slow for so many of them. */
+    private int appendFloat() {
+        model.feed(203);
+        model.put(0xFFFFFFFB00000005L, 8);
+        return 9;
+    }
+
     private void same(String call, LongSupplier got, LongSupplier due) {
         calls++;
-        CHECK.due(name + call, answer(got), answer(due));
+        long answer = answer(got);
+        CHECK.due(name + call, answer, answer(due));
+        MET.merge(call.substring(0, call.indexOf('(')) + " " + answer, 1, Integer::sum);
     }
 
     private static long answer(LongSupplier call) {
@@ -163,7 +208,7 @@ public final class ModelTest {
         int k = random.nextInt(12) == 0 ? edge() : random.nextInt(5);
         same("remaining(" + k + ")", () -> reader.remaining(k), () -> model.remaining(k));
         same("payload(" + k + ")", () -> reader.payload(k), () -> model.payload(k));
-        int i = random.nextInt(12) == 0 ? edge() : random.nextInt(1 + Check.size(reader));
+        int i = random.nextInt(12) == 0 ? edge() : random.nextInt(1 + model.cut(0));
         same("byteAt(" + i + ")", () -> reader.byteAt(i), () -> model.byteAt(i));
     }
 }
