@@ -9,7 +9,7 @@ public final class ContainersTest {
         CHECK.sentence("a map two for each of its count: its CHILDREN", ContainersTest::mapInsideArray);
         CHECK.sentence("whose children are not all consumed", ContainersTest::lastChildIsContainer);
         CHECK.sentence("a value is a child of the innermost one", ContainersTest::childOfTheInnermost);
-        CHECK.sentence("arrays and maps that have no children", ContainersTest::emptyContainers);
+        CHECK.sentence("OPEN are containers whose children are not all consumed", ContainersTest::emptyContainers);
         CHECK.sentence("How many children the k-th open container still has", ContainersTest::largeCounts);
         CHECK.sentence("from the innermost one (0) on", ContainersTest::innermostAndOutermost);
         CHECK.sentence("NONE if there is none such", ContainersTest::noSuchContainer);

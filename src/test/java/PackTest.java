@@ -26,10 +26,10 @@ public final class PackTest {
         CHECK.sentence("5 one with sign (224 .. 255 too)", PackTest::withSign);
         CHECK.sentence("6: low alone", PackTest::shortFloats);
         CHECK.sentence("7: both", PackTest::longFloats);
-        CHECK.sentence("8 text: low is the length (0 .. 2^31 - 1)", PackTest::texts);
-        CHECK.sentence("9 bytes: low is the length (0 .. 2^31 - 1)", PackTest::bytes);
-        CHECK.sentence("10 array: low is the count (0 .. 2^31 - 1)", () -> counts(10, 144, 220));
-        CHECK.sentence("11 map: low is the count (0 .. 2^31 - 1)", () -> counts(11, 128, 222));
+        CHECK.sentence("8 to 11: low is the length or count (0 .. 2^31 - 1) .. 8 text", PackTest::texts);
+        CHECK.sentence("8 to 11: low is the length or count (0 .. 2^31 - 1) .. 9 bytes", PackTest::bytes);
+        CHECK.sentence("8 to 11: low is the length or count (0 .. 2^31 - 1) .. 10 array", () -> counts(10, 144, 220));
+        CHECK.sentence("8 to 11: low is the length or count (0 .. 2^31 - 1) .. 11 map", () -> counts(11, 128, 222));
         CHECK.sentence("12: likewise", PackTest::extensions);
         CHECK.sentence("high the type", PackTest::types);
     }

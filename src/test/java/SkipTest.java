@@ -228,9 +228,11 @@ public final class SkipTest {
         CHECK.due("skip() of 100 largest maps", reader.skip(), MORE);
         reader.feed(193);
         CHECK.due("skip() of 100 largest maps with 193 inside", reader.skip(), INVALID);
-        reader = Make.bytes(147, 221, 127, 255, 255, 255, 221, 127, 255, 255, 255, 1, 2, 3, 4);
-        CHECK.due("skip() of two largest arrays in an array", reader.skip(), MORE);
-        reader = Make.bytes(145, 223, 127, 255, 255, 255, 1, 2, 3, 4);
-        CHECK.due("skip() of a largest map in an array", reader.skip(), MORE);
+        // With such counts the children due are 2^32 and a few, which 32 bits would take for the few.
+        for (int count = 1; count <= 15; count++) {
+            notSkipped(MORE, 144 + count, 221, 127, 255, 255, 255, 221, 127, 255, 255, 255, 1, 2, 3, 4, 5, 6, 7, 8);
+            notSkipped(MORE, 144 + count, 223, 127, 255, 255, 255, 1, 2, 3, 4, 5, 6, 7, 8);
+            notSkipped(MORE, 144 + count, 223, 64, 0, 0, 0, 223, 64, 0, 0, 0, 1, 2, 3, 4, 5, 6, 7, 8);
+        }
     }
 }

@@ -13,6 +13,7 @@ public final class WholeTest {
         CHECK.sentence("or LARGE", WholeTest::upToLarge);
         CHECK.sentence("nothing is consumed", WholeTest::nothingIsConsumed);
         CHECK.sentence("How deep it goes counts for nothing", WholeTest::deepValues);
+        CHECK.sentence("above 2^31 - 1", WholeTest::largestCounts);
         CHECK.sentence("4096 at most", WholeTest::many);
         CHECK.finish();
     }
@@ -113,6 +114,14 @@ public final class WholeTest {
         reader.put(0x0708, 2);
         CHECK.due("240 arrays and a number", reader.whole(), 2);
         CHECK.due("arrays with 100 open", Make.nested(100, 145, 145, 1, 129, 2, 3, 144).whole(), 3);
+    }
+
+    /** The children due are 2^32 and a few, which 32 bits would take for the few. */
+    private static void largestCounts() {
+        for (int count = 1; count <= 15; count++) {
+            whole(1, 9, 144 + count, 221, 127, 255, 255, 255, 221, 127, 255, 255, 255, 1, 2, 3, 4, 5, 6, 7, 8);
+            whole(1, 9, 144 + count, 223, 127, 255, 255, 255, 1, 2, 3, 4, 5, 6, 7, 8);
+        }
     }
 
     private static void many() {
